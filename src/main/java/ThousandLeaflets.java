@@ -783,9 +783,7 @@ public final class ThousandLeaflets {
         int seal;
 
         Draw() {
-            for (int d = 0; d <= MOST_ALL; d++) {
-                odds[d] = NONE;
-            }
+            clear();
         }
 
         void clear() {
@@ -1102,8 +1100,11 @@ public final class ThousandLeaflets {
                 return wrong(AGAIN);
             }
             fault = numberFault(0, MOST_ODDS);
+            if (fault != 0) {
+                return fault;
+            }
             draft.odds[d] = tape.number;
-            return fault != 0 ? fault : endFault();
+            return endFault();
         }
 
         private int firstFault() {
@@ -1113,14 +1114,20 @@ public final class ThousandLeaflets {
             }
             draft.firstBelow = tape.number;
             fault = numberFault(2, 9);
+            if (fault != 0) {
+                return fault;
+            }
             draft.firstWeight = tape.number;
-            return fault != 0 ? fault : endFault();
+            return endFault();
         }
 
         private int sealFault() {
             int fault = numberFault(1, SEALS - 1);
+            if (fault != 0) {
+                return fault;
+            }
             draft.seal = tape.number;
-            return fault != 0 ? fault : endFault();
+            return endFault();
         }
 
         private int sumFault(int pages) {

@@ -62,7 +62,7 @@ final class PlainModel {
         }
     }
 
-    boolean told(int b) {
+    boolean isTold(int b) {
         return b >= 0 && b <= 1 && n[b] > 0;
     }
 
@@ -106,7 +106,7 @@ final class PlainModel {
     }
 
     boolean page(int b, int p, int v) {
-        if (!told(b) || !in(p, 0, n[b] - 1) || !in(v, 0, 65535) || blocked(b)) {
+        if (!isTold(b) || !in(p, 0, n[b] - 1) || !in(v, 0, 65535) || blocked(b)) {
             return false;
         }
         value[b][p] = v;
@@ -128,7 +128,7 @@ final class PlainModel {
     int draw(int b) {
         String text = tape.toString();
         tape.setLength(0);
-        if (!told(b) || blocked(b)) {
+        if (!isTold(b) || blocked(b)) {
             return -1;
         }
         Odds fresh = new Odds();
@@ -313,7 +313,7 @@ final class PlainModel {
     }
 
     int leaflet(int b, int x, int what) {
-        if (!told(b) || !in(x, 0, 9999) || !in(what, 0, 3)) {
+        if (!isTold(b) || !in(x, 0, 9999) || !in(what, 0, 3)) {
             return -1;
         }
         List<Integer> p = pagesOf(b, x);
@@ -322,7 +322,7 @@ final class PlainModel {
     }
 
     int told(int b, int p) {
-        return !told(b) || !in(p, 0, all(b) - 1) ? -1 : valueOf(b, p);
+        return !isTold(b) || !in(p, 0, all(b) - 1) ? -1 : valueOf(b, p);
     }
 
     int namelessIn(int q) {
@@ -347,7 +347,7 @@ final class PlainModel {
     }
 
     int comes(int q, int b, int x, int bytes) {
-        if (!in(q, 0, 3) || !told(b) || !in(x, 0, 9999) || !in(bytes, 1, 3)) {
+        if (!in(q, 0, 3) || !isTold(b) || !in(x, 0, 9999) || !in(bytes, 1, 3)) {
             return -1;
         }
         int s = leaflet(b, x, 1);
@@ -356,7 +356,7 @@ final class PlainModel {
     }
 
     int slip(int q, int b, int x, int error) {
-        if (!in(q, 0, 3) || !told(b) || !in(x, 0, 9999) || !in(error, 1, 65535)) {
+        if (!in(q, 0, 3) || !isTold(b) || !in(x, 0, 9999) || !in(error, 1, 65535)) {
             return -1;
         }
         int s = leaflet(b, x, 1);
@@ -364,7 +364,7 @@ final class PlainModel {
     }
 
     int forged(int q, int b, int x, int sum, int seal) {
-        if (!in(q, 0, 3) || !told(b) || !in(x, 0, 9999) || !in(sum, 0, 65535) || !in(seal, 0, 996)) {
+        if (!in(q, 0, 3) || !isTold(b) || !in(x, 0, 9999) || !in(sum, 0, 65535) || !in(seal, 0, 996)) {
             return -1;
         }
         return put(q, new Slip(b, x, sum, 3, seal));
@@ -470,7 +470,7 @@ final class PlainModel {
     }
 
     int peels(int q, int b, int o, int what) {
-        if (!in(q, 0, 3) || !told(b) || !in(o, 0, 1) || !in(what, 0, 3)) {
+        if (!in(q, 0, 3) || !isTold(b) || !in(o, 0, 1) || !in(what, 0, 3)) {
             return -1;
         }
         List<Row> rows = rows(b, o, heaps.get(q));
@@ -571,7 +571,7 @@ final class PlainModel {
     }
 
     int solves(int q, int b, int o, int what) {
-        if (!in(q, 0, 3) || !told(b) || !in(o, 0, 1) || !in(what, 0, 3)) {
+        if (!in(q, 0, 3) || !isTold(b) || !in(o, 0, 1) || !in(what, 0, 3)) {
             return -1;
         }
         List<Row> rows = rows(b, o, heaps.get(q));
@@ -596,14 +596,14 @@ final class PlainModel {
     }
 
     int read(int q, int b, int p, int how) {
-        if (!in(q, 0, 3) || !told(b) || !in(p, 0, all(b) - 1) || !in(how, 0, 1)) {
+        if (!in(q, 0, 3) || !isTold(b) || !in(p, 0, all(b) - 1) || !in(how, 0, 1)) {
             return -1;
         }
         return readFrom(heaps.get(q), b, p, how);
     }
 
     int soon(int q, int b, int p, int how) {
-        if (!in(q, 0, 3) || !told(b) || !in(p, 0, all(b) - 1) || !in(how, 0, 1)) {
+        if (!in(q, 0, 3) || !isTold(b) || !in(p, 0, all(b) - 1) || !in(how, 0, 1)) {
             return -1;
         }
         for (int k = 0; k <= heaps.get(q).size(); k++) {
@@ -639,7 +639,7 @@ final class PlainModel {
     }
 
     int slipped(int q, int b, int o, int what) {
-        if (!in(q, 0, 3) || !told(b) || !in(o, 0, 1) || !in(what, 0, 2)) {
+        if (!in(q, 0, 3) || !isTold(b) || !in(o, 0, 1) || !in(what, 0, 2)) {
             return -1;
         }
         List<Row> rows = rows(b, o, heaps.get(q));
@@ -651,7 +651,7 @@ final class PlainModel {
     }
 
     int right(int q, int b, int o, int p) {
-        if (!in(q, 0, 3) || !told(b) || !in(o, 0, 1) || !in(p, 0, all(b) - 1)) {
+        if (!in(q, 0, 3) || !isTold(b) || !in(o, 0, 1) || !in(p, 0, all(b) - 1)) {
             return -1;
         }
         List<Row> rows = rows(b, o, heaps.get(q));
@@ -666,7 +666,7 @@ final class PlainModel {
     }
 
     int doubles(int q, int b, int o) {
-        if (!in(q, 0, 3) || !told(b) || !in(o, 0, 1)) {
+        if (!in(q, 0, 3) || !isTold(b) || !in(o, 0, 1)) {
             return -1;
         }
         List<Row> rows = rows(b, o, heaps.get(q));
@@ -685,7 +685,7 @@ final class PlainModel {
     }
 
     int guard(int q, int b, int o, int p) {
-        if (!in(q, 0, 3) || !told(b) || !in(o, 0, 1) || !in(p, 0, all(b) - 1)) {
+        if (!in(q, 0, 3) || !isTold(b) || !in(o, 0, 1) || !in(p, 0, all(b) - 1)) {
             return -1;
         }
         List<Row> rows = rows(b, o, heaps.get(q));
@@ -709,7 +709,7 @@ final class PlainModel {
     }
 
     int tocome(int q, int b, int what) {
-        if (!in(q, 0, 3) || !told(b) || !in(what, 0, 1)) {
+        if (!in(q, 0, 3) || !isTold(b) || !in(what, 0, 1)) {
             return -1;
         }
         if (!agree(b, rows(b, 0, heaps.get(q))) || !agree(b, rows(b, 1, heaps.get(q)))) {
@@ -790,14 +790,14 @@ final class PlainModel {
     }
 
     int chances(int b, int m, int k, int how) {
-        if (!told(b) || !in(m, 1, 11) || !in(k, 0, m) || !in(how, 0, 1)) {
+        if (!isTold(b) || !in(m, 1, 11) || !in(k, 0, m) || !in(how, 0, 1)) {
             return -1;
         }
         return setsGiving(b, m, k, how, odds[b].odds);
     }
 
     int enough(int b, int m, int how, boolean half) {
-        if (!told(b) || !in(m, 1, 11) || !in(how, 0, 1)) {
+        if (!isTold(b) || !in(m, 1, 11) || !in(how, 0, 1)) {
             return -1;
         }
         for (int k = 0; k <= m; k++) {
@@ -810,7 +810,7 @@ final class PlainModel {
     }
 
     long average(int b, int m, int how, int what) {
-        if (!told(b) || !in(m, 1, 11) || !in(how, 0, 1) || !in(what, 0, 1)) {
+        if (!isTold(b) || !in(m, 1, 11) || !in(how, 0, 1) || !in(what, 0, 1)) {
             return -1;
         }
         List<List<Integer>> leaflets = firstLeaflets(b, m, odds[b].odds);
@@ -850,7 +850,7 @@ final class PlainModel {
     }
 
     int degree(int b, int m, int k, int how) {
-        if (!told(b) || !in(m, 1, 11) || !in(k, 0, m) || !in(how, 0, 1)) {
+        if (!isTold(b) || !in(m, 1, 11) || !in(k, 0, m) || !in(how, 0, 1)) {
             return -1;
         }
         int best = -1;
@@ -872,7 +872,7 @@ final class PlainModel {
             return -1;
         }
         List<Slip> heap = heaps.get(q);
-        if (heap.get(place).book != -1 || !told(0) || !told(1)) {
+        if (heap.get(place).book != -1 || !isTold(0) || !isTold(1)) {
             return -1;
         }
         boolean[] may = new boolean[2];
@@ -907,7 +907,7 @@ final class PlainModel {
     }
 
     int scatter(int b, int from, int to) {
-        if (!told(b) || !in(from, 0, 9999) || !in(to, from, 9999) || to - from > 99) {
+        if (!isTold(b) || !in(from, 0, 9999) || !in(to, from, 9999) || to - from > 99) {
             return -1;
         }
         int c = 0;
@@ -923,7 +923,7 @@ final class PlainModel {
     }
 
     int needs(int q, int b) {
-        if (!in(q, 0, 3) || !told(b)) {
+        if (!in(q, 0, 3) || !isTold(b)) {
             return -1;
         }
         List<Row> rows = hidden(b);
@@ -943,7 +943,7 @@ final class PlainModel {
     }
 
     int town(int b, int share) {
-        if (!told(b) || !in(share, 0, 100)) {
+        if (!isTold(b) || !in(share, 0, 100)) {
             return -1;
         }
         for (int m = 0; m <= 60; m++) {

@@ -75,6 +75,7 @@ public final class PromisesTest {
         draws();
         faults();
         leaflets();
+        fullBook();
         comings();
         seals();
         namelessOnes();
@@ -306,6 +307,31 @@ public final class PromisesTest {
             g = (g * 1103515245L + 12345) % 2147483648L;
             due(6, "book 1, " + number, 1L << g / 65536 % 16, x.leaflet(1, number, 0));
         }
+    }
+
+    /** A book of twenty pages in all, the most that there can be. */
+    private static void fullBook() {
+        ThousandLeaflets x = told(16, "sum 0 15;sum 1 14;sum 2 13;sum 3 4 5 6; odds 20 1;");
+        due(34, "count(4)", 20, x.count(4));
+        due(6, "all twenty", 1048575, x.leaflet(0, 9999, 0));
+        due(7, "the last hidden page", 257 * 120 & 65535, x.told(0, 19));
+        due(7, "no more", -1, x.told(0, 20));
+        x.comes(0, 0, 1, 3);
+        due(14, "twenty unknown", 5, x.peels(0, 0, 0, 3));
+        due(15, "missing", 15, x.solves(0, 0, 0, 3));
+        x.away(0, 0);
+        due(5, "nineteen or twenty", 0, draw(x, 0, "sum 0 15;sum 1 14;sum 2 13;sum 3 4 5 6; odds 20 0; odds 19 999;"));
+        due(6, "nineteen", 19, x.leaflet(0, 1, 3));
+        due(5, "ones", 0, draw(x, 0, "sum 0 15;sum 1 14;sum 2 13;sum 3 4 5 6; odds 1 1;"));
+        for (int p = 0; p < 16; p++) {
+            x.comes(1, 0, number(x, 1 << p), 3);
+        }
+        due(14, "all known by peeling", 1048575, x.peels(1, 0, 1, 0));
+        due(15, "all fixed by solving", 1048575, x.solves(1, 0, 1, 0));
+        due(16, "the last hidden page", 257 * 120 & 65535, x.read(1, 0, 19, 1));
+        due(17, "the last hidden page is known by the seventh", 7, x.soon(1, 0, 19, 0));
+        due(21, "one guards it", 1, x.guard(1, 0, 1, 19));
+        due(26, "fewer leaflets than pages", 1, x.degree(0, 11, 11, 1));
     }
 
     private static void comings() {

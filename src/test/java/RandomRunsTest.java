@@ -1,9 +1,12 @@
+import java.lang.reflect.InvocationTargetException;
+import java.lang.reflect.Method;
 import java.util.NoSuchElementException;
 import java.util.Random;
 
 /** Runs of calls from fixed seeds, on the program and on the plain model: all answers must be the same. */
 public final class RandomRunsTest {
     private static final int RUNS = 1500;
+    private static final int THROWN = -99;
     private static final String[] NAMES = {"book", "page", "feed", "draw", "leaflet", "told", "comes", "slip", "forged",
         "nameless", "paper", "away", "peels", "solves", "read", "soon", "slipped", "right", "doubles", "guard",
         "tocome", "chances", "enough", "average", "degree", "apart", "quarter", "scatter", "needs", "town", "swap",
@@ -238,7 +241,7 @@ public final class RandomRunsTest {
                 return new int[] {q, b, x, random.nextInt(2) == 0 ? 1 << random.nextInt(16) : odd(1, 65535)};
             case "forged":
                 int sum = someSum(b, x);
-                return new int[] {q, b, x, sum, random.nextInt(3) > 0 && model.told(b) ? model.sealOf(b, x, sum) : odd(0, 996)};
+                return new int[] {q, b, x, sum, random.nextInt(3) > 0 && model.isTold(b) ? model.sealOf(b, x, sum) : odd(0, 996)};
             case "nameless":
                 return new int[] {q, x, someSum(random.nextInt(2), x)};
             case "paper":
@@ -284,90 +287,42 @@ public final class RandomRunsTest {
     }
 
     private int call(String name, int[] a, int run) {
-        same(name, java.util.Arrays.stream(a).asLongStream().toArray(), ofModel(name, a), ofProgram(name, a), run);
+        long[] shown = new long[a.length];
+        for (int i = 0; i < a.length; i++) {
+            shown[i] = a[i];
+        }
+        same(name, shown, answer(model, name, a), answer(program, name, a), run);
         return 1;
+    }
+
+    /** What a call answers; a boolean counts 1 or 0, and what is thrown is a number of its own. */
+    private static long answer(Object of, String name, int[] a) {
+        try {
+            for (Method m : of.getClass().getDeclaredMethods()) {
+                if (m.getName().equals(name) && m.getParameterCount() == a.length) {
+                    Object[] arguments = new Object[a.length];
+                    for (int i = 0; i < a.length; i++) {
+                        arguments[i] = m.getParameterTypes()[i] == boolean.class ? (Object) (a[i] == 1) : (Object) a[i];
+                    }
+                    Object answer = m.invoke(of, arguments);
+                    return answer instanceof Boolean ? (Boolean) answer ? 1 : 0 : ((Number) answer).longValue();
+                }
+            }
+        } catch (InvocationTargetException e) {
+            if (e.getCause() instanceof NoSuchElementException) {
+                return THROWN;
+            }
+            throw new IllegalStateException(name, e.getCause());
+        } catch (IllegalAccessException e) {
+            throw new IllegalStateException(e);
+        }
+        throw new IllegalStateException("there is no call " + name);
     }
 
     private void same(String name, long[] a, long due, long got, int run) {
         if (due != got) {
             wrong++;
             System.out.println("run " + run + ": " + name + java.util.Arrays.toString(a) + " answered " + got + ", due is " + due);
-        }
-    }
-
-    private long ofModel(String name, int[] a) {
-        PlainModel x = model;
-        switch (name) {
-            case "book": return x.book(a[0], a[1]) ? 1 : 0;
-            case "page": return x.page(a[0], a[1], a[2]) ? 1 : 0;
-            case "draw": return x.draw(a[0]);
-            case "leaflet": return x.leaflet(a[0], a[1], a[2]);
-            case "told": return x.told(a[0], a[1]);
-            case "comes": return x.comes(a[0], a[1], a[2], a[3]);
-            case "slip": return x.slip(a[0], a[1], a[2], a[3]);
-            case "forged": return x.forged(a[0], a[1], a[2], a[3], a[4]);
-            case "nameless": return x.nameless(a[0], a[1], a[2]);
-            case "paper": try { return x.paper(a[0], a[1], a[2]); } catch (NoSuchElementException e) { return -99; }
-            case "away": return x.away(a[0], a[1]) ? 1 : 0;
-            case "peels": return x.peels(a[0], a[1], a[2], a[3]);
-            case "solves": return x.solves(a[0], a[1], a[2], a[3]);
-            case "read": return x.read(a[0], a[1], a[2], a[3]);
-            case "soon": return x.soon(a[0], a[1], a[2], a[3]);
-            case "slipped": return x.slipped(a[0], a[1], a[2], a[3]);
-            case "right": return x.right(a[0], a[1], a[2], a[3]);
-            case "doubles": return x.doubles(a[0], a[1], a[2]);
-            case "guard": return x.guard(a[0], a[1], a[2], a[3]);
-            case "tocome": return x.tocome(a[0], a[1], a[2]);
-            case "chances": return x.chances(a[0], a[1], a[2], a[3]);
-            case "enough": return x.enough(a[0], a[1], a[2], a[3] == 1);
-            case "average": return x.average(a[0], a[1], a[2], a[3]);
-            case "degree": return x.degree(a[0], a[1], a[2], a[3]);
-            case "apart": return x.apart(a[0], a[1]);
-            case "quarter": return x.quarter(a[0], a[1], a[2]) ? 1 : 0;
-            case "scatter": return x.scatter(a[0], a[1], a[2]);
-            case "needs": return x.needs(a[0], a[1]);
-            case "town": return x.town(a[0], a[1]);
-            case "swap": return x.swap(a[0], a[1], a[2]);
-            case "mark": return x.mark(a[0], a[1] == 1) ? 1 : 0;
-            default: return x.count(a[0]);
-        }
-    }
-
-    private long ofProgram(String name, int[] a) {
-        ThousandLeaflets x = program;
-        switch (name) {
-            case "book": return x.book(a[0], a[1]) ? 1 : 0;
-            case "page": return x.page(a[0], a[1], a[2]) ? 1 : 0;
-            case "draw": return x.draw(a[0]);
-            case "leaflet": return x.leaflet(a[0], a[1], a[2]);
-            case "told": return x.told(a[0], a[1]);
-            case "comes": return x.comes(a[0], a[1], a[2], a[3]);
-            case "slip": return x.slip(a[0], a[1], a[2], a[3]);
-            case "forged": return x.forged(a[0], a[1], a[2], a[3], a[4]);
-            case "nameless": return x.nameless(a[0], a[1], a[2]);
-            case "paper": try { return x.paper(a[0], a[1], a[2]); } catch (NoSuchElementException e) { return -99; }
-            case "away": return x.away(a[0], a[1]) ? 1 : 0;
-            case "peels": return x.peels(a[0], a[1], a[2], a[3]);
-            case "solves": return x.solves(a[0], a[1], a[2], a[3]);
-            case "read": return x.read(a[0], a[1], a[2], a[3]);
-            case "soon": return x.soon(a[0], a[1], a[2], a[3]);
-            case "slipped": return x.slipped(a[0], a[1], a[2], a[3]);
-            case "right": return x.right(a[0], a[1], a[2], a[3]);
-            case "doubles": return x.doubles(a[0], a[1], a[2]);
-            case "guard": return x.guard(a[0], a[1], a[2], a[3]);
-            case "tocome": return x.tocome(a[0], a[1], a[2]);
-            case "chances": return x.chances(a[0], a[1], a[2], a[3]);
-            case "enough": return x.enough(a[0], a[1], a[2], a[3] == 1);
-            case "average": return x.average(a[0], a[1], a[2], a[3]);
-            case "degree": return x.degree(a[0], a[1], a[2], a[3]);
-            case "apart": return x.apart(a[0], a[1]);
-            case "quarter": return x.quarter(a[0], a[1], a[2]) ? 1 : 0;
-            case "scatter": return x.scatter(a[0], a[1], a[2]);
-            case "needs": return x.needs(a[0], a[1]);
-            case "town": return x.town(a[0], a[1]);
-            case "swap": return x.swap(a[0], a[1], a[2]);
-            case "mark": return x.mark(a[0], a[1] == 1) ? 1 : 0;
-            default: return x.count(a[0]);
         }
     }
 }
