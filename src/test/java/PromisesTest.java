@@ -123,6 +123,7 @@ public final class PromisesTest {
         due(2, "book(0, 17)", false, x.book(0, 17));
         due(2, "count(4) after false ones", 16, x.count(4));
         due(2, "draw", 0, draw(x, 0, "sum 0 15; odds 17 1;"));
+        x.page(0, 0, 8);
         x.page(0, 3, 9);
         x.page(1, 0, 7);
         x.comes(0, 0, 0, 3);
@@ -136,6 +137,7 @@ public final class PromisesTest {
         due(2, "in order", 0, x.paper(0, 0, 1));
         due(2, "in order", 1, x.paper(0, 1, 1));
         due(2, "the nameless are gone", 0, x.count(3));
+        due(2, "pages are 0", 0, x.told(0, 0));
         due(2, "pages are 0", 0, x.told(0, 3));
         due(2, "without a draw", 4, x.count(4));
         due(2, "one page each", 1, x.leaflet(0, 5, 3));
@@ -248,6 +250,10 @@ public final class PromisesTest {
         fault(1, 0, "oddsa 1 1;");
         fault(1, 0, "abcdefghi");
         fault(1, 0, "5");
+        fault(1, 0, "adds 1 1;");
+        fault(1, 0, "zum 0 1;");
+        fault(1, 0, "seat 1;");
+        fault(1, 0, "firs 1 2;");
         fault(1, 5, "odds 12345 1;");
         fault(1, 8, "odds 1 1odds 2 1;");
         fault(1, 5, "odds ;");
@@ -275,6 +281,9 @@ public final class PromisesTest {
         ThousandLeaflets x = new ThousandLeaflets();
         x.book(0, 1);
         due(5, "a sum in a book of one page", 4 + 16 * 6, draw(x, 0, "sum 0 1;"));
+        x.book(0, 16);
+        due(5, "a sum of all sixteen", 0, draw(x, 0, "sum 15 14 13 12 11 10 9 8 7 6 5 4 3 2 1 0;"));
+        due(5, "and of one too many", 4 + 16 * 42, draw(x, 0, "sum 15 14 13 12 11 10 9 8 7 6 5 4 3 2 1 0 16;"));
     }
 
     /** The draws of a leaflet again, in long and by the document's letters. */
@@ -698,6 +707,19 @@ public final class PromisesTest {
         due(22, "of one page", 1, Integer.bitCount(set) == 1 ? y.leaflet(0, Integer.bitCount(set - 1), 3) : 0);
         y.slip(0, 0, number(y, 0, 1, 40), 2);
         due(22, "all is fixed", 0, y.tocome(0, 0, 0));
+        // One byte tells page 1 falsely, the other not at all: a right leaflet of page 1 alone does not agree.
+        for (int octet = 0; octet < 2; octet++) {
+            ThousandLeaflets z = told(2, "odds 1 3; odds 2 3;");
+            z.slip(0, 0, number(z, 0, 1, 1), 1 << 8 * octet);
+            z.comes(0, 0, number(z, 3), 1 + octet);
+            due(22, "one", 1, z.tocome(0, 0, 0));
+            due(22, "a leaflet of page 1 is ahead of it", true, number(z, 2) < number(z, 3));
+            due(22, "the one with both pages", 1 << number(z, 3), z.tocome(0, 0, 1));
+            z = told(2, "odds 1 1; odds 2 1;");
+            z.slip(0, 0, number(z, 0, 1, 1), 1 << 8 * octet);
+            z.comes(0, 0, number(z, 3), 1 + octet);
+            due(22, "the one with both pages is no more of 0 to 10", -1, z.tocome(0, 0, 0));
+        }
     }
 
     private static void chances() {
@@ -774,6 +796,10 @@ public final class PromisesTest {
         ThousandLeaflets x = told(1, "");
         x.nameless(2, 0, 257);
         due(27, "a book is not told", -1, x.apart(2, 0));
+        ThousandLeaflets y = new ThousandLeaflets();
+        y.book(1, 1);
+        y.nameless(2, 0, 257);
+        due(27, "the other book is not told", -1, y.apart(2, 0));
         x.book(1, 1);
         x.page(1, 0, 9);
         x.nameless(2, 0, 257);
