@@ -1,5 +1,3 @@
-import java.util.NoSuchElementException;
-
 /** For each promise the ordinary, the edges and the wrong inputs, told by hand. */
 public final class PromisesTest {
     private static int wrong = 0;
@@ -16,55 +14,27 @@ public final class PromisesTest {
     }
 
     private static int feed(ThousandLeaflets x, String text) {
-        int there = x.count(6);
-        for (int at = 0; at < text.length(); at += 24) {
-            long[] words = new long[3];
-            for (int i = 0; i < 24; i++) {
-                words[i / 8] = words[i / 8] << 8 | (at + i < text.length() ? text.charAt(at + i) : 0);
-            }
-            there = x.feed(words[0], words[1], words[2]);
-        }
-        return there;
+        return Kit.feed(x, text);
     }
 
     private static int draw(ThousandLeaflets x, int book, String text) {
-        feed(x, text);
-        return x.draw(book);
+        return Kit.draw(x, book, text);
     }
 
-    /** A book of n pages, page p being 0x0101 times 2 to the p (below 8) by a draw. */
     private static ThousandLeaflets told(int n, String text) {
-        ThousandLeaflets x = new ThousandLeaflets();
-        x.book(0, n);
-        for (int p = 0; p < n && p < 8; p++) {
-            x.page(0, p, 257 << p);
-        }
-        due(5, "the draw " + text, 0, draw(x, 0, text));
-        return x;
+        return Kit.told(n, text);
     }
 
-    /** The nth number (from 0) whose leaflet has just these pages. */
     private static int number(ThousandLeaflets x, int book, int pages, int nth) {
-        int left = nth;
-        for (int i = 0; i <= 9999; i++) {
-            if (x.leaflet(book, i, 0) == pages && left-- == 0) {
-                return i;
-            }
-        }
-        throw new IllegalStateException("no leaflet has the pages " + pages);
+        return Kit.number(x, book, pages, nth);
     }
 
     private static int number(ThousandLeaflets x, int pages) {
-        return number(x, 0, pages, 0);
+        return Kit.number(x, pages);
     }
 
     private static long thrown(ThousandLeaflets x, int quarter, int place, int what) {
-        try {
-            x.paper(quarter, place, what);
-            return 0;
-        } catch (NoSuchElementException e) {
-            return 1;
-        }
+        return Kit.thrown(x, quarter, place, what);
     }
 
     public static void main(String[] args) {
