@@ -125,6 +125,11 @@ public final class PromiseEdgesTest {
         Kit.due("all 0", 0, x.told(0, 0) + x.told(0, 1));
         Kit.due("without a draw: no hidden page", 2, x.count(4));
         Kit.due("without a seal", 0, x.leaflet(0, 9, 2));
+        ThousandLeaflets fresh = new ThousandLeaflets();
+        fresh.book(0, 2);
+        for (int i = 0; i < 80; i++) {
+            Kit.due("the leaflets are drawn anew, " + i, fresh.leaflet(0, i, 0), x.leaflet(0, i, 0));
+        }
         Kit.due("the paper of book 1 came up", 1, x.paper(0, 0, 0));
     }
 
@@ -643,9 +648,11 @@ public final class PromiseEdgesTest {
             Kit.due("by numbers", q == 0 ? 37 : 38, x.paper(q, 39, 1));
         }
         Kit.refused(x, "no room", 0, () -> x.scatter(0, 100, 199));
-        x.away(2, 0);
-        Kit.due("room for one in one quarter", 1, x.scatter(0, 100, 199));
-        Kit.due("the first that lacks", 100, x.paper(2, 39, 1));
+        for (int q = 0; q < 4; q++) {
+            x.away(q, 0);
+            Kit.due("room for one in quarter " + q, 1, x.scatter(0, 100, 199));
+            Kit.due("the first that lacks", 100, x.paper(q, 39, 1));
+        }
         ThousandLeaflets y = Kit.told(1, "");
         for (int q = 0; q < 4; q++) {
             y.quarter(q, 100, 1);

@@ -53,6 +53,7 @@ public final class TermsEdgesTest {
         average();
         bestDegree();
         apart();
+        apartQuarrels();
         apartNeedsBoth();
 
         falls();
@@ -590,7 +591,13 @@ public final class TermsEdgesTest {
         x.nameless(0, 0, 9);
         Kit.due("papers of others do not count", 1, x.peels(0, 0, 0, 1));
         Kit.due("nor torn ones of the other byte", 5, x.comes(0, 0, Kit.number(x, 1), 1));
-        Kit.due("high", 0, x.doubles(0, 0, 1) - x.doubles(0, 0, 0) + 1);
+        Kit.due("it is a double of the low byte alone", 1, x.doubles(0, 0, 0) - x.doubles(0, 0, 1));
+        ThousandLeaflets y = Kit.told(3, "odds 1 1; sum 0 1; sum 0 2; sum 1 2; sum 0 1 2;");
+        Kit.fill(y, 0, 0, 39);
+        int other = y.leaflet(0, 0, 0) == 1 ? 2 : 1;
+        y.comes(0, 0, Kit.number(y, other), 3);
+        Kit.due("the 40th behind four hidden ones by solving", 257 * other, y.read(0, 0, other - 1, 1));
+        Kit.due("by peeling", 257 * other, y.read(0, 0, other - 1, 0));
     }
 
     private static void peeling() {
@@ -750,6 +757,8 @@ public final class TermsEdgesTest {
         x.page(0, 1, 65535);
         for (int how = 0; how < 2; how++) {
             Kit.due("none", -1, x.read(how, 0, 1, how));
+            x.comes(3, 0, Kit.number(x, 1), 1);
+            Kit.due("the low byte alone", -1, x.read(3, 0, 0, how));
             x.comes(how, 0, Kit.number(x, 2), 2);
             Kit.due("the high byte alone", -1, x.read(how, 0, 1, how));
             x.comes(how, 0, Kit.number(x, 2), 1);
@@ -782,6 +791,18 @@ public final class TermsEdgesTest {
             Kit.due("papers of others are counted", 2, x.soon(0, 0, 0, how));
             Kit.due("with the very last", 40, x.soon(0, 0, 1, how));
             Kit.due("with the very last", 40, x.soon(0, 0, 2, how));
+        }
+        // What another heap has read does not help, in either byte.
+        for (int how = 0; how < 2; how++) {
+            for (int octet = 0; octet < 2; octet++) {
+                ThousandLeaflets y = Kit.told(2, "");
+                y.comes(0, 0, Kit.number(y, 1), 3);
+                y.comes(1, 0, Kit.number(y, 1), 1 + octet);
+                y.comes(1, 0, Kit.number(y, 2), 3);
+                Kit.due("both bytes", 1, y.soon(0, 0, 0, how));
+                Kit.due("read", 257, y.read(0, 0, 0, how));
+                Kit.due("one byte alone", -1, y.soon(1, 0, 0, how));
+            }
         }
         // What came later may spoil the reading, not how soon it was.
         ThousandLeaflets y = Kit.told(1, "");
@@ -908,6 +929,15 @@ public final class TermsEdgesTest {
         x.comes(1, 0, Kit.number(x, 2), 3);
         Kit.due("page 1 by one", 1, x.guard(1, 0, 1, 1));
         Kit.due("page 0 by one", 1, x.guard(1, 0, 1, 0));
+        x.comes(2, 0, Kit.number(x, 3), 3);
+        x.comes(2, 0, Kit.number(x, 1), 3);
+        Kit.due("in two papers, one of which is enough", 1, x.guard(2, 0, 0, 0));
+        Kit.due("page 1, too", 1, x.guard(2, 0, 0, 1));
+        x.comes(3, 0, Kit.number(x, 1), 3);
+        Kit.due("another heap with more of them", -1, x.guard(0, 0, 0, 0));
+        Kit.due("does not help", 1, x.guard(3, 0, 0, 0));
+        Kit.due("another heap, another page", 1, x.guard(2, 0, 0, 1));
+        Kit.due("neither", 1, x.guard(3, 0, 0, 0));
     }
 
     private static void toCome() {
@@ -960,6 +990,18 @@ public final class TermsEdgesTest {
             }
         }
         Kit.due("both were seen", true, ten > 0 && eleven > 0);
+        int all = 0;
+        for (int way = 0; way < 40; way++) {
+            ThousandLeaflets x = Kit.told(11, "odds 3 " + (1 + way) + "; odds 5 7; odds 6 " + (1 + way % 3) + ";");
+            if (x.chances(0, 11, 11, 1) == 1) {
+                all++;
+                Kit.due("all eleven", 11, x.tocome(0, 0, 0));
+                Kit.due("all eleven as bits", 2047, x.tocome(0, 0, 1));
+            } else {
+                Kit.due("they are not enough", -1, x.tocome(0, 0, 0));
+            }
+        }
+        Kit.due("eleven pages by eleven were seen", true, all > 0 && all < 40);
     }
 
     // ==== 4.
@@ -982,6 +1024,17 @@ public final class TermsEdgesTest {
             Kit.due("k 2 of 1", -1, x.chances(0, 1, 2, how));
             Kit.due("k -1", -1, x.chances(0, 11, -1, how));
         }
+        for (int way = 0; way < 16; way++) {
+            int n = 2 + way % 4;
+            ThousandLeaflets each = Kit.told(n, way < 4 ? "" : "first " + way / 4 + " 2;");
+            for (int m = 1; m <= 11; m++) {
+                for (int k = 0; k <= m; k++) {
+                    int due = onePageSets(each, n, m, k);
+                    Kit.due("n " + n + ", m " + m + ", k " + k, due, each.chances(0, m, k, 0));
+                    Kit.due("n " + n + ", m " + m + ", k " + k, due, each.chances(0, m, k, 1));
+                }
+            }
+        }
         ThousandLeaflets y = Kit.told(12, "");
         Kit.fill(y, 0, 0, 40);
         Kit.due("more pages than leaflets", 0, y.chances(0, 11, 11, 1));
@@ -993,6 +1046,23 @@ public final class TermsEdgesTest {
         Kit.due("some are the hidden page", true, hidden > 0);
         Kit.due("two of different pages are enough", pairs(z), z.chances(0, 11, 2, 0));
         Kit.due("by solving, too", pairs(z), z.chances(0, 11, 2, 1));
+    }
+
+    /** The sets of leaflets of one page each that have all pages. */
+    private static int onePageSets(ThousandLeaflets x, int n, int m, int k) {
+        int[] pages = new int[m];
+        for (int i = 0; i < m; i++) {
+            pages[i] = x.leaflet(0, i, 0);
+        }
+        int found = 0;
+        for (int set = 0; set < 1 << m; set++) {
+            int there = 0;
+            for (int i = 0; i < m; i++) {
+                there |= (set >> i & 1) != 0 ? pages[i] : 0;
+            }
+            found += Integer.bitCount(set) == k && there == (1 << n) - 1 ? 1 : 0;
+        }
+        return found;
     }
 
     private static int pairs(ThousandLeaflets x) {
@@ -1131,6 +1201,43 @@ public final class TermsEdgesTest {
         Kit.due("by the low byte of the other one", 0, y.apart(0, 0));
     }
 
+    /** What the ones with a name tell must agree in each byte of each book, whichever the nameless one is of. */
+    private static void apartQuarrels() {
+        Kit.says("of all ways in which the EQUATIONS of both BYTES of both BOOKS AGREE (all PAPERS of the HEAP together)");
+        for (int b = 0; b < 2; b++) {
+            for (int octet = 0; octet < 2; octet++) {
+                ThousandLeaflets x = Kit.told(1, "");
+                x.book(1, 1);
+                x.nameless(0, 0, 257 * b);
+                x.comes(0, b, 0, 1 + octet);
+                Kit.due("a way", true, x.apart(0, 0) >= 0);
+                x.slip(0, b, 1, 1 << 8 * octet);
+                Kit.due("no way: byte " + octet + " of book " + b, -1, x.apart(0, 0));
+            }
+        }
+        // A nameless paper has other pages as one of book 0 than as one of book 1.
+        ThousandLeaflets y = Kit.told(2, "odds 1 1;");
+        Kit.tell(y, 1, 3, "odds 2 1;");
+        for (int number = 0; number < 60; number++) {
+            y.nameless(0, number, y.leaflet(0, number, 1));
+            y.comes(0, 0, Kit.number(y, 1), 3);
+            y.comes(0, 0, Kit.number(y, 2), 3);
+            Kit.due("of book 0, or of 1 that tells nothing yet", 2, y.apart(0, 0));
+            y.comes(0, 1, Kit.number(y, 1, 3, 0), 3);
+            y.comes(0, 1, Kit.number(y, 1, 6, 0), 3);
+            Kit.due("a page of one bit is not the sum of two", 0, y.apart(0, 0));
+            y.nameless(1, number, y.leaflet(1, number, 1));
+            y.swap(0, 1, 40);
+            Kit.due("a sum of two is not one of its pages", 1, y.apart(1, 0));
+            for (int i = y.count(0); i > 0; i--) {
+                y.away(0, 0);
+            }
+            for (int i = y.count(1); i > 0; i--) {
+                y.away(1, 0);
+            }
+        }
+    }
+
     private static void apartNeedsBoth() {
         Kit.says("(Both BOOKS must be told.)");
         ThousandLeaflets x = new ThousandLeaflets();
@@ -1251,9 +1358,15 @@ public final class TermsEdgesTest {
         x.quarter(0, 0, 340);
         x.quarter(1, 100, 660);
         Kit.due("just 34", 1, x.town(0, 34));
+        x.quarter(0, 0, 999);
+        x.quarter(1, 100, 1);
+        Kit.due("all but one house of 1,000, share 99", 1, x.town(0, 99));
+        Kit.due("all but one house of 1,000, share 100", -1, x.town(0, 100));
         x.quarter(0, 100, 0);
         x.quarter(1, 100, 0);
         Kit.due("no houses: a share of nothing is there", 0, x.town(0, 100));
+        Kit.due("no houses, share 101", -1, x.town(0, 101));
+        Kit.due("no houses, share -1", -1, x.town(0, -1));
         x.quarter(3, 0, 999);
         Kit.due("all houses are in quarter 3", 1, x.town(0, 100));
     }
