@@ -1321,6 +1321,20 @@ public final class TermsEdgesTest {
         Kit.due("pairs never", -1, y.needs(0, 0));
         ThousandLeaflets z = Kit.told(1, "");
         Kit.due("one", 1, z.needs(3, 0));
+        // Two of different pages, the hidden one among them, are enough, whatever came and was read.
+        ThousandLeaflets two = Kit.told(2, "odds 1 1; sum 0 1;");
+        int due = 1;
+        while (two.leaflet(0, due, 0) == two.leaflet(0, 0, 0)) {
+            due++;
+        }
+        Kit.due("before all", due + 1, two.needs(0, 0));
+        two.comes(0, 0, Kit.number(two, 1), 3);
+        two.comes(0, 0, Kit.number(two, 2), 3);
+        for (int octet = 0; octet < 2; octet++) {
+            Kit.due("all is read", 7, two.solves(0, 0, octet, 0));
+            Kit.due("papers do not count", due + 1, two.needs(0, 0));
+            Kit.due("nor for the town", due + 1, two.town(0, 100));
+        }
     }
 
     private static void houses() {
