@@ -9,8 +9,8 @@ import java.util.function.IntBinaryOperator;
 import java.util.function.IntUnaryOperator;
 
 /**
- * Every call with every mixture of edge arguments, in states that are empty, full, false or at their most, on the program
- * and on the plain model: the answers and all that can be seen after them must be the same, and nothing else is thrown.
+ * Every call but feed with every mixture of edge arguments, in states that are empty, full, false or at their most, on the
+ * program and on the plain model: the answers and what can be seen after them must be the same, and nothing else is thrown.
  */
 public final class GridTest {
     private static final int LOW = Integer.MIN_VALUE;
